@@ -100,8 +100,8 @@ public final class BeamClocks {
     private final Story story;
     private final Hand hand;
     private final Hearing hearing;
-    private final Least least;
-    private final Order order;
+    private final Least leastMoving;
+    private final Order startOrder;
     private final int[] otherBeams;
     private final int[] otherPlaces;
     private final byte[] strokesOfRun;
@@ -119,8 +119,8 @@ public final class BeamClocks {
         story = new Story();
         hand = new Hand();
         hearing = new Hearing();
-        least = new Least(trial);
-        order = new Order(trial);
+        leastMoving = new Least(trial);
+        startOrder = new Order(trial);
         otherBeams = new int[MOST_CLOCKS];
         otherPlaces = new int[MOST_CLOCKS];
         strokesOfRun = new byte[MOST_RUN];
@@ -337,11 +337,11 @@ public final class BeamClocks {
         if (k < 0 || k > 99 || what < 0 || what > 6) {
             return NONE;
         }
-        least.find(now, clocks, n, k);
-        if (least.moves == SPENT || what == 0) {
-            return least.moves;
+        leastMoving.find(now, clocks, n, k);
+        if (leastMoving.moves == SPENT || what == 0) {
+            return leastMoving.moves;
         }
-        return least.moved[what - 1];
+        return leastMoving.moved[what - 1];
     }
 
     public int mend(int clock, int n, int count) {
@@ -373,11 +373,11 @@ public final class BeamClocks {
         if (clocks == 0 || what < 0 || what > clocks) {
             return NONE;
         }
-        order.find(now, n, g, w);
-        if (order.earliest == SPENT || what == 0) {
-            return order.earliest;
+        startOrder.find(now, n, g, w);
+        if (startOrder.earliest == SPENT || what == 0) {
+            return startOrder.earliest;
         }
-        return order.best[what - 1];
+        return startOrder.best[what - 1];
     }
 
     public int due(int clock, int k) {
@@ -519,8 +519,8 @@ public final class BeamClocks {
 
     /** What LEAST and ORDER found holds only while all hang as they did. */
     private void forgetFound() {
-        least.forget();
-        order.forget();
+        leastMoving.forget();
+        startOrder.forget();
     }
 
     private void beginTrial() {

@@ -97,6 +97,16 @@ public final class RunsTest {
         Check.same("no place is out of reach", y.least(1, 17, 0, 0), -2);
         Check.same("nor for its parts", y.least(1, 17, 0, 1), -2);
         Check.same("nothing is changed by it", Check.look(y, 0, 1), 0);
+        Check.same("asked", x.least(1, 17, 0, 0), 1);
+        x.hang(0, 1, 30);
+        Check.same("the same asked of other hangings", x.least(1, 17, 0, 0), 0);
+        x.undo();
+        Check.same("and undone", x.least(1, 17, 0, 0), 1);
+        Check.same("by another k", x.least(1, 17, 1, 0), 0);
+        Check.same("by another n", x.least(1, 16, 1, 0), 0);
+        Check.same("of others", x.least(3, 17, 0, 0), 1);
+        Check.tell(x, "beam b 99 0;clock x b 0 1 50;clock y b 1 9 50 phase 200;");
+        Check.same("and of another text", x.least(3, 17, 0, 0), -2);
         twoMoves();
     }
 
@@ -112,6 +122,12 @@ public final class RunsTest {
         int[] want = {2, 1, 1, 0, 2, 1, 1};
         for (int what = 0; what <= 6; what++) {
             Check.same("x must stay, y and z leave it: what " + what, y.least(1, 38, 0, what), want[what]);
+        }
+        BeamClocks z = Check.told("beam c 0 0;beam b 99 0;law go 50 * (weight > 1 or place > 9);" + clocks
+                + "clock x b 10 1 50;");
+        int[] first = {2, 0, 0, 0, 1, 0, 1};
+        for (int what = 0; what <= 6; what++) {
+            Check.same("the very first places: what " + what, z.least(4, 38, 0, what), first[what]);
         }
     }
 
@@ -164,6 +180,20 @@ public final class RunsTest {
         Check.same("the other one first", y.order(50, 5, 0, 1), 1);
         Check.same("then this one", y.order(50, 5, 0, 2), 0);
         Check.same("no clocks", new BeamClocks().order(5, 0, 0, 0), -1);
+        BeamClocks u = Check.told("beam b 0 0;law go place;clock x b 1 1 10;clock y b 2 1 10;");
+        Check.same("drifting apart", u.order(9, 0, 5, 0), -2);
+        u.hang(0, 0, 3);
+        Check.same("the same asked of other hangings", u.order(9, 0, 9, 0), 0);
+        u.hang(0, 0, 1);
+        u.hang(1, 0, 4);
+        Check.same("and of others again", u.order(9, 0, 9, 0), -2);
+        u.undo();
+        Check.same("and undone", u.order(9, 0, 9, 0), 0);
+        Check.same("by another w", u.order(9, 0, 8, 0), -2);
+        Check.same("by another n", u.order(8, 0, 8, 0), 0);
+        Check.same("by another g", u.order(8, 1, 8, 0), 1);
+        Check.tell(u, "beam b 0 0;clock x b 1 1 10;clock y b 2 1 10 phase 500;");
+        Check.same("and of another text", u.order(8, 1, 8, 0), -2);
         BeamClocks z = Check.told("beam b 0 0;law lose 100;clock x b 0 1 10;");
         Check.same("it runs up to the end of 4", z.order(4, 0, 0, 0), 0);
         Check.same("it is stopped at the end of 5", z.order(5, 0, 0, 0), -2);
@@ -185,6 +215,12 @@ public final class RunsTest {
         Check.same("due(0, -1)", x.due(0, -1), -1);
         Check.same("due(2, 0)", x.due(2, 0), -1);
         Check.same("due(-1, 99)", x.due(-1, 99), -1);
+        BeamClocks y = Check.told("beam b 0 0;clock x b 0 1 10 phase 990;clock y b 1 1 10;");
+        Check.same("in step 0", y.due(0, 0), 0);
+        Check.same("in step 1900", y.due(0, 19), 1900);
+        Check.same("step 2000 is no more of it", y.due(0, 20), -2);
+        Check.same("gain of step 0", y.gain(0, 1, 0), -99);
+        Check.same("gain by step 0", y.gain(1, 0, 0), 99);
     }
 
     private static void promise27() {
@@ -214,6 +250,13 @@ public final class RunsTest {
         Check.same("nor a strike", x.strike(0), -1);
         Check.same("40 heard", x.count(5), 40);
         Check.same("all are so", x.fits(), 1);
+        BeamClocks y = Check.told(FREE);
+        for (int i = 0; i < 39; i++) {
+            y.heard(5, 0, i == 0);
+        }
+        Check.same("the first isn't so", y.fits(), 0);
+        Check.same("the last strikes it", y.strike(0), 39);
+        Check.same("and counts", y.fits(), 1);
     }
 
     private static void promise29() {
@@ -312,6 +355,9 @@ public final class RunsTest {
         Check.same("drawn by the wall", x.run(0, 17, 0), 1);
         Check.same("1 without wall, hung as now", x.tried(1, 0, 17, 0), 0);
         Check.same("and as it was", x.run(0, 17, 0), 1);
+        BeamClocks v = Check.told("beam a 0 0;beam b 0 0;wall 1;clock x a 0 1 52;clock y b 0 9 52 phase 200;");
+        Check.same("drawn a little by the wall", v.run(0, 19, 0), 1);
+        Check.same("1 without wall it is none", v.tried(1, 0, 19, 0), 0);
         BeamClocks y = Check.told("beam b 0 0;law lose 100;law go weight * 10;clock x b 0 5 1;clock y b 1 1 1 start 90;");
         Check.same("stopped", y.run(0, 20, 0), 0);
         Check.same("2 no loss", y.tried(2, 0, 20, 0), 1);
@@ -341,6 +387,7 @@ public final class RunsTest {
         Check.same("w 428", x.chance(1, 1, 428), 9);
         Check.same("n 0: none runs", x.chance(1, 0, 500), 0);
         Check.same("seed MAX", x.chance(Integer.MAX_VALUE, 1, 500), 10);
+        Check.same("seed 0", x.chance(0, 1, 500), 10);
         Check.same("seed -1", x.chance(-1, 1, 500), -1);
         Check.same("n 501", x.chance(1, 501, 500), -1);
         Check.same("n -1", x.chance(1, -1, 500), -1);
@@ -393,6 +440,16 @@ public final class RunsTest {
         Check.same("a faulty text leaves the image", x.back(), 121);
         Check.tell(x, FREE);
         Check.same("a text leaves no image", x.back(), -1);
+        BeamClocks z = Check.told("beam b 0 0;law lose 3;clock x b 0 1 10;clock y b 1 2 20;");
+        z.steps(99);
+        z.keep();
+        z.steps(1);
+        Check.same("a fall", z.falls(), 1);
+        z.back();
+        Check.same("its swing as in the image", Check.look(z, 0, 5), 500 - 297);
+        Check.same("no stroke of the step that is next", z.stroke(0, 0), -2);
+        Check.same("nor a fall", z.falls(), 0);
+        Check.same("nor its step", z.fall(0), -2);
         BeamClocks y = Check.told(DRAWN);
         y.keep();
         y.hang(0, 1, 3);

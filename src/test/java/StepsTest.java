@@ -300,6 +300,11 @@ public final class StepsTest {
         Check.same("fall(2)", x.fall(2), -2);
         Check.same("fall(-1)", x.fall(-1), -1);
         Check.same("fall(MIN)", x.fall(Integer.MIN_VALUE), -1);
+        BeamClocks y = Check.told("beam b 0 0;clock x b 0 1 1 phase 999;clock y b 1 1 1 phase 999;");
+        y.steps(1);
+        Check.same("a fall in step 0", y.falls(), 1);
+        Check.same("its step", y.fall(0), 0);
+        Check.same("a stroke in step 0", y.stroke(1, 0), 0);
     }
 
     private static void promise18() {
@@ -372,6 +377,7 @@ public final class StepsTest {
         Check.same("20 at most", x.count(7), 20);
         for (int i = 19; i >= 0; i--) {
             Check.same("undo", x.undo(), i);
+            Check.same("hung as ahead of that", Check.look(x, 0, 1), 6 + i);
         }
         Check.same("five stay done", Check.look(x, 0, 1), 6);
         Check.same("no more", x.undo(), -1);

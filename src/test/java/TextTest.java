@@ -79,6 +79,15 @@ public final class TextTest {
         Check.same("no beams then", x.count(0), 0);
     }
 
+    /** What the tape has behind the first n bytes is no part of the text. */
+    private static void cut(String tape, int n, int fault, int place) {
+        BeamClocks x = new BeamClocks();
+        Check.feed(x, tape);
+        Check.same("text(" + n + ") of " + tape, x.text(n), -1);
+        Check.same("its fault", x.fault(0), fault);
+        Check.same("its place", x.fault(1), place);
+    }
+
     private static void fine(String text, int lines) {
         BeamClocks x = new BeamClocks();
         Check.same("text \"" + text + "\"", Check.tell(x, text), lines);
@@ -88,6 +97,11 @@ public final class TextTest {
 
     private static void promise3Words() {
         Check.refused(";", 1, 0);
+        cut("wall 12;", 6, 1, 6);
+        cut("law go 1 <= 2;", 10, 1, 10);
+        cut("law go 1 < 2;", 11, 1, 11);
+        cut("wall;", 3, 1, 0);
+        cut("wall 1;", 6, 1, 6);
         Check.refused("beam", 1, 4);
         Check.refused("beam b", 1, 6);
         Check.refused("beam b 1 1", 1, 10);
@@ -188,6 +202,14 @@ public final class TextTest {
         Check.refused("law go 1 < 2 < 3;", 1, 13);
         Check.refused("law go 1 < 2 + 1 = 3;", 1, 17);
         fine("law go (1 < 2) < 3;", 1);
+        String[] signs = {"<", "<=", "=", "<>", ">=", ">"};
+        for (String one : signs) {
+            fine("law go 1 " + one + " 2 * 2;", 1);
+            for (String other : signs) {
+                Check.refused("law go 1 " + one + " 2 " + other + " 3;", 1, 12 + one.length());
+                fine("law go 1 " + one + " 2 and 1 " + other + " 3;", 1);
+            }
+        }
         fine("law go 1 < 2 and 2 < 3 or 1 > 2;", 1);
         Check.refused("law go 1 + not 2;", 1, 11);
         Check.refused("law go 1 < not 2;", 1, 11);
@@ -311,5 +333,8 @@ public final class TextTest {
         worth("(" + limit + ")*(" + limit + ")", 40);
         worth("(" + limit + "+1)*(0-1)+(" + limit + "+1)+3", 3);
         worth("9999*9999*9999*9999*9999*9999", 40);
+        // 2 to the 32 times itself is 0 in a long that goes round
+        worth("(4096*4096*256)*(4096*4096*256)+5", 40);
+        worth("(0-4096*4096*256)*(4096*4096*256)+5", 40);
     }
 }
