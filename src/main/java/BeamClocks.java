@@ -618,10 +618,6 @@ public final class BeamClocks {
             size = 0;
         }
 
-        boolean isFull() {
-            return size >= letters.length;
-        }
-
         void add(int word) {
             if (size < letters.length) {
                 letters[size] = word;
@@ -801,7 +797,8 @@ public final class BeamClocks {
             for (int word = 0; word < LANGUAGE_WORDS; word++) {
                 int packed = 0;
                 for (int i = 0; i < LETTERS; i++) {
-                    char sign = LANGUAGE.charAt(word * LETTERS + i);
+                    int index = word * LETTERS + i;
+                    char sign = index < LANGUAGE.length() ? LANGUAGE.charAt(index) : ' ';
                     packed = packed << 5 | (sign == ' ' ? 0 : sign - 'a' + 1);
                 }
                 language[word] = packed;
