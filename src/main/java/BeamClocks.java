@@ -860,6 +860,7 @@ public final class BeamClocks {
         private void readSign() {
             int sign = tape[at];
             at++;
+            int behind = at < length ? tape[at] : 0;
             switch (sign) {
                 case ';': kind = SEMICOLON; break;
                 case '(': kind = OPEN; break;
@@ -869,18 +870,13 @@ public final class BeamClocks {
                 case '+': kind = PLUS; break;
                 case '-': kind = MINUS; break;
                 case '=': kind = SAME; break;
-                case '<': kind = follows('=') ? LESS_OR_SAME : follows('>') ? OTHER : LESS; break;
-                case '>': kind = follows('=') ? MORE_OR_SAME : MORE; break;
+                case '<': kind = behind == '=' ? LESS_OR_SAME : behind == '>' ? OTHER : LESS; break;
+                case '>': kind = behind == '=' ? MORE_OR_SAME : MORE; break;
                 default: kind = BAD; break;
             }
-        }
-
-        private boolean follows(char sign) {
-            if (at >= length || tape[at] != sign) {
-                return false;
+            if (kind == LESS_OR_SAME || kind == OTHER || kind == MORE_OR_SAME) {
+                at++;
             }
-            at++;
-            return true;
         }
     }
 

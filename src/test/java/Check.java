@@ -2,8 +2,14 @@
 final class Check {
     private static int wrong = 0;
     private static int asked = 0;
+    private static String sentence = "";
 
     private Check() {
+    }
+
+    /** The sentence of the document that the answers asked from now on belong to. */
+    static void of(String words) {
+        sentence = words;
     }
 
     static void same(String what, long got, long want) {
@@ -11,7 +17,8 @@ final class Check {
         if (got != want) {
             wrong++;
             if (wrong <= 60) {
-                System.out.println(what + " answered " + got + ", due is " + want);
+                String where = sentence.isEmpty() ? "" : "[" + sentence + "] ";
+                System.out.println(where + what + " answered " + got + ", due is " + want);
             }
         }
     }
@@ -62,6 +69,15 @@ final class Check {
         if (lines < 0) {
             same("text \"" + text + "\" (fault " + x.fault(0) + " at " + x.fault(1) + ")", lines, 0);
         }
+        return x;
+    }
+
+    /** Asks that a new object takes this text, of so many lines. */
+    static BeamClocks fine(String text, int lines) {
+        BeamClocks x = new BeamClocks();
+        same("text \"" + text + "\"", tell(x, text), lines);
+        same("no fault of \"" + text + "\"", x.fault(0), 0);
+        same("no place of a fault in \"" + text + "\"", x.fault(1), BeamClocks.NONE);
         return x;
     }
 
