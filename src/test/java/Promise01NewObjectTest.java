@@ -9,6 +9,7 @@ public final class Promise01NewObjectTest {
         nothingHeardYet();
         stepsOfNoClocks();
         objectsShareNothing();
+        upToThe512thCall();
         Check.end();
     }
 
@@ -122,5 +123,18 @@ public final class Promise01NewObjectTest {
         Twins.alike("behind another one", new BeamClocks(), new BeamClocks());
         Check.same("clocks", new BeamClocks().count(1), 0);
         Check.same("the tape", new BeamClocks().text(1), -2);
+    }
+
+    private static void upToThe512thCall() {
+        Check.of("What it is: an object is used for at most 512 calls after it has been made");
+        BeamClocks x = new BeamClocks();
+        // "beam b 0 0;clock x b", " 0 1 10;": three calls
+        x.feed(0x6265616d, 0x20622030, 0x20303b63, 0x6c6f636b, 0x20782062);
+        x.feed(0x20302031, 0x2031303b, 0x20202020, 0x20202020, 0x20202020);
+        Check.same("text", x.text(28), 2);
+        for (int call = 4; call <= 511; call++) {
+            Check.same("call " + call, x.steps(1), call - 3);
+        }
+        Check.same("call 512", x.look(0, 4), 508 * 10 % 1000);
     }
 }
